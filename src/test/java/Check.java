@@ -1,0 +1,78 @@
+import java.util.Arrays;
+import java.util.NoSuchElementException;
+
+/** What the tests of the project share: each wrong answer is printed, and counts. */
+final class Check {
+    private static int wrong;
+    private static int looked;
+
+    private Check() {
+    }
+
+    static void is(String what, long got, long want) {
+        looked++;
+        if (got != want) {
+            wrong++;
+            System.out.println(what + ": answered " + got + ", due is " + want);
+        }
+    }
+
+    static void is(String what, boolean got, boolean want) {
+        is(what, got ? 1 : 0, want ? 1 : 0);
+    }
+
+    static void row(String what, DueWheels x, long... want) {
+        looked++;
+        long[] got = rowOf(x);
+        if (!Arrays.equals(got, want)) {
+            wrong++;
+            System.out.println(what + ": the row is " + Arrays.toString(got) + ", due is " + Arrays.toString(want));
+        }
+    }
+
+    static long[] rowOf(DueWheels x) {
+        long[] numbers = new long[x.count(8)];
+        for (int i = 0; i < numbers.length; i++) {
+            numbers[i] = x.row(i);
+        }
+        return numbers;
+    }
+
+    static void noSuch(String what, Runnable call) {
+        looked++;
+        try {
+            call.run();
+        } catch (NoSuchElementException e) {
+            return;
+        }
+        wrong++;
+        System.out.println(what + ": threw nothing, due is NoSuchElementException");
+    }
+
+    static void fails(String what) {
+        looked++;
+        wrong++;
+        System.out.println(what);
+    }
+
+    /** Puts a text into an object that has none. */
+    static void text(DueWheels x, String text) {
+        for (int i = 0; i < text.length(); i += 4) {
+            int v = 0;
+            for (int k = 0; k < 4; k++) {
+                v = v << 8 | (i + k < text.length() ? text.charAt(i + k) : 0);
+            }
+            x.sign(v);
+        }
+        if (!x.end(text.length())) {
+            fails("the text " + text + " could not be put");
+        }
+    }
+
+    static void close(String name) {
+        System.out.println(name + ": " + looked + " looked at, " + wrong + " wrong");
+        if (wrong != 0) {
+            System.exit(1);
+        }
+    }
+}
