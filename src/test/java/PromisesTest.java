@@ -46,6 +46,7 @@ public final class PromisesTest {
         promise38Told();
         promise39Count();
         promise40Row();
+        endOfTheClock();
         Check.close("PromisesTest");
     }
 
@@ -119,6 +120,9 @@ public final class PromisesTest {
         is("2: WHOLE of four", x.count(2), 1536);
         is("2: laid anew, LEVEL", x.timer(0, 1), 3);
         is("2: laid anew, SLOT", x.timer(0, 2), 200 / 96 % 16);
+        is("2: as they are, four", x.wheels(16, 2, 3, 16), -2);
+        is("2: three of them", x.wheels(16, 2, 3, 0), 3);
+        is("2: another second", x.wheels(16, 3, 3, 0), 3);
         is("2: two", x.wheels(16, 16, 0, 0), 2);
         is("2: laid anew, lower", x.timer(0, 1), 1);
         is("2: SLOT lower", x.timer(0, 2), 12);
@@ -276,6 +280,36 @@ public final class PromisesTest {
         is("5: gone by TIMES", x.count(3), 3);
     }
 
+    /** It takes a thousand leaps: more calls than the document promises, but the end stands there all the same. */
+    private static void endOfTheClock() {
+        DueWheels x = new DueWheels();
+        for (int i = 0; i < 999; i++) {
+            x.leaps(1000000);
+        }
+        x.leaps(999950);
+        x.sets(40, 0, 1, 1, 0);
+        is("4: past the end", x.ticks(51), -4);
+        is("25: past the end", x.rings(51), -4);
+        is("26: past the end", x.quiet(51), -4);
+        is("33: past the end", x.busiest(51), -4);
+        is("35: past the end", x.loudest(51), -4);
+        is("36: past the end", x.clashes(51), -4);
+        is("34: past the end", x.till(1), -4);
+        is("34: NONE ahead of -4", x.till(101), NONE);
+        is("5: past the end", x.leaps(51), -4);
+        is("32: past the end", x.would(51), -4);
+        is("32: to the end", x.would(50), 1);
+        is("25: to the end", x.rings(50), 11);
+        is("4: to the end", x.ticks(50), 11);
+        is("39: the last CLOCK", x.count(0), 1000000000);
+        is("4: not one more", x.ticks(1), -4);
+        is("4: NONE ahead of -4", x.ticks(101), NONE);
+        is("5: not one more", x.leaps(1), -4);
+        is("16: not one more", run(x, "s1,0;t1"), 1);
+        row("16: not one more", x, 1, 0);
+        is("5: back", x.leaps(-1000000), 0);
+    }
+
     private static void promise6Sets() {
         DueWheels x = withRowSeven();
         is("6: delay 0", x.sets(0, 0, 0, 1, 0), NONE);
@@ -333,6 +367,11 @@ public final class PromisesTest {
         is("8: told", x.told(3), 2);
         is("8: others ring", x.ticks(16), 14);
         is("8: the last group", x.cancelsAll(7), 0);
+        DueWheels y = sixteen();
+        is("8: timer 0", y.cancelsAll(0), 2);
+        is("8: timer 0 is gone", y.ticks(1), 0);
+        is("8: timer 15", y.cancelsAll(7), 2);
+        is("8: the others", y.count(3), 12);
     }
 
     private static void promise9Steady() {
@@ -349,6 +388,15 @@ public final class PromisesTest {
         x.cancels(0);
         x.sets(5, 0, 0, 1, 0);
         is("9: a new one is not", x.timer(0, 9), 0);
+        x.pauses(0);
+        x.cancels(0);
+        x.sets(5, 0, 2, 3, 0);
+        is("9: nor paused", x.timer(0, 1), 1);
+        x.ticks(5);
+        is("9: RANG", x.timer(0, 8), 1);
+        x.cancels(0);
+        x.sets(5, 0, 2, 3, 0);
+        is("9: nor did it ring", x.timer(0, 8), 0);
     }
 
     private static void promise10Pauses() {
@@ -413,6 +461,10 @@ public final class PromisesTest {
         x.pauses(9);
         is("13: one of 1", x.goesOn(1), 1);
         is("13: they ring", x.ticks(10), 2);
+        x.sets(4, 6, 0, 1, 0);
+        x.pauses(0);
+        is("13: timer 0", x.goesOn(6), 1);
+        is("13: timer 0 goes on", x.timer(0, 1), 1);
     }
 
     private static void promise14Spreads() {
@@ -454,6 +506,19 @@ public final class PromisesTest {
         is("14: it stays", y.spreads(0, 4), 0);
         is("14: laid anew all the same", y.timer(0, 1), 0);
         is("14: not moved", y.told(1), 0);
+        DueWheels z = new DueWheels();
+        z.sets(30, 0, 0, 1, 0);
+        z.sets(9, 0, 0, 1, 0);
+        z.sets(20, 0, 0, 1, 0);
+        z.sets(9, 1, 0, 1, 0);
+        is("14: by DUE, not by ARRIVAL", z.spreads(0, 2), 2);
+        row("14: the last DUE", z, 13);
+        is("14: the first", z.timer(1, 0), 9);
+        is("14: the second", z.timer(2, 0), 11);
+        is("14: the third", z.timer(0, 0), 13);
+        is("14: another group", z.timer(3, 0), 9);
+        is("14: the widest", z.spreads(0, 1000), 2);
+        row("14: the widest", z, 2009);
     }
 
     private static void promise15Delays() {
@@ -481,6 +546,10 @@ public final class PromisesTest {
         is("15: REST", x.timer(1, 10), 1000000);
         is("15: paused still", x.timer(1, 1), -2);
         is("15: not moved", x.told(1), 0);
+        is("15: the least", x.delays(2, 1), 0);
+        is("15: DUE", x.timer(2, 0), 12);
+        is("15: the greatest", x.delays(2, 1000000), 0);
+        is("15: DUE", x.timer(2, 0), 1000011);
     }
 
     private static int run(DueWheels x, String text) {
@@ -515,17 +584,23 @@ public final class PromisesTest {
         is("16: as one rings there is room", run(y, "t1;s1,0;s1,0;t1"), 2);
         row("16: then none", y, 1, 1);
         is("16: PERIOD of sort 0", y.timer(0, 6), 1);
+        DueWheels z = new DueWheels();
+        is("16: the least of all", run(z, "s1,1,1;l1;l-1;t1;c0"), 5);
+        row("16: the least of all", z, 0, 1);
+        is("16: CLOCK", z.count(0), 1);
     }
 
     private static void promise16RunTexts() {
         String[] wrong = {"x", "s", "sx", "s0,0", "s00,0", "s5", "s5;", "s5,", "s5,4", "s5,x", "s5,0,1", "s5,1",
             "s5,1;", "s5,1,", "s5,1,0", "s5,1,1001", "s5,1,01000", "s12345,0", "s5,00", "s5,1,5,", "t", "t0", "t10",
             "t05", "tx", "t-1", "l", "l0", "l-", "l-0", "l--1", "l+1", "l10000", "l-00010", "c", "cx", "c123", "c-1",
-            "t1;", ";t1", "t1;;t1", "t1,t1", "t1 ", " t1", ";", "T1", "t1;s5,1,2x", "s5,2,2000;x"};
+            "t1;", ";t1", "t1;;t1", "t1,t1", "t1 ", " t1", ";", "T1", "t1;s5,1,2x", "s5,2,2000;x",
+            "c012", "s00012,0", "s5,1,00001", "l00001", "s5,2,10000", "c0001"};
         int[] at = {0, 1, 1, 1, 2, 2, 2, 3, 3, 3, 4, 4,
             4, 5, 5, 8, 9, 5, 4, 6, 1, 1, 2,
             1, 1, 1, 1, 1, 2, 2, 2, 1, 5, 6, 1, 1, 3, 1,
-            3, 0, 3, 2, 2, 0, 0, 0, 9, 8};
+            3, 0, 3, 2, 2, 0, 0, 0, 9, 8,
+            3, 5, 9, 5, 9, 3};
         DueWheels x = withRowSeven();
         is("16: as many places as texts", at.length, wrong.length);
         for (int i = 0; i < wrong.length; i++) {
@@ -634,6 +709,11 @@ public final class PromisesTest {
         row("20: empty", x);
         x.pauses(9);
         is("20: paused ones lie nowhere", x.slot(2, 2), 2);
+        DueWheels y = sixteen();
+        is("20: timer 0", y.slot(0, 1), 1);
+        row("20: timer 0", y, 0);
+        is("20: timer 15", y.slot(2, 1), 1);
+        row("20: timer 15", y, 15);
     }
 
     private static void promise21Far() {
@@ -693,6 +773,13 @@ public final class PromisesTest {
         is("23: all", y.row(15), 15);
         is("23: the sixteenth", y.full(1), 1);
         row("23: the sixteenth", y, 1, 1);
+        y.wheels(4, 4, 4, 0);
+        is("23: slots 1 to 3", y.full(1), 3);
+        row("23: slots 1 to 3", y, 1, 2, 3, 12);
+        y.ticks(1);
+        y.wheels(3, 5, 0, 0);
+        is("23: slot 0 too", y.full(1), 5);
+        row("23: slot 0 too", y, 0, 1, 2, 3, 4, 12);
     }
 
     private static void promise24Next() {
@@ -717,6 +804,7 @@ public final class PromisesTest {
         is("24: rule 2", x.next(), 205);
         row("24: rule 2", x, 9, 8, 5);
         is("24: none at all", new DueWheels().next(), -2);
+        is("24: timer 0", sixteen().next(), 1);
     }
 
     private static void promise25Rings() {
@@ -807,6 +895,11 @@ public final class PromisesTest {
         y.ticks(18);
         is("28: as it lies", y.moves(0), 1);
         is("28: were it laid now", y.cost(4, 4, 4, 0), 0);
+        row("28: not far, no move", y, 0, 0);
+        is("28: D from CLOCK", y.cost(2, 0, 0, 0), 1);
+        row("28: D is 2", y, 1, 1);
+        is("28: D from CLOCK", y.cost(3, 0, 0, 0), 0);
+        row("28: D is 2", y, 0, 0);
     }
 
     private static void promise29Best() {
@@ -837,6 +930,12 @@ public final class PromisesTest {
         }
         is("29: more slots", y.best(1), 3);
         row("29: together", y, 3);
+        DueWheels z = new DueWheels();
+        for (int i = 0; i < 16; i++) {
+            z.sets(15, 0, 0, 1, 0);
+        }
+        is("29: the greatest", z.best(1), 16);
+        row("29: together", z, 16);
     }
 
     private static void promise30Ahead() {
@@ -855,6 +954,8 @@ public final class PromisesTest {
         row("30: CLOCK", x, 204);
         x.sets(205, 2, 0, 1, 0);
         is("30: of one DUE by ARRIVAL", x.ahead(8, 5), 1);
+        is("30: by DUE, not by ARRIVAL", x.ahead(8, 7), 0);
+        is("30: by DUE, the other", x.ahead(6, 8), 1);
         x.order(1);
         is("30: by GROUP", x.ahead(8, 5), 0);
         x.order(2);
@@ -925,6 +1026,8 @@ public final class PromisesTest {
         row("33: more such", x, 2, 1);
         is("33: but one tick of it", x.busiest(4), 54);
         row("33: no more such", x, 2, 0);
+        is("33: fewer are no such", x.busiest(9), 54);
+        row("33: fewer are no such", x, 2, 0);
     }
 
     private static void promise34Till() {
@@ -948,6 +1051,24 @@ public final class PromisesTest {
         row("34: 100", y, 100, 0);
         y.ticks(50);
         is("34: from now on", y.till(100), 150);
+        is("34: no further than it must", y.till(7), 57);
+        row("34: no further", y, 7, 0);
+        DueWheels z = new DueWheels();
+        z.sets(5, 0, 1, 5, 0);
+        z.ticks(5);
+        is("34: MOVED before", z.told(1), 1);
+        is("34: MOVED from now on", z.till(2), 15);
+        row("34: MOVED from now on", z, 2, 2);
+        z.wheels(2, 3, 4, 5);
+        is("34: by other wheels", z.till(2), 15);
+        row("34: MOVED at 10 and at 14", z, 2, 2);
+        z.wheels(6, 0, 0, 0);
+        is("34: by one wheel", z.till(2), 15);
+        row("34: none MOVED", z, 2, 0);
+        z.wheels(2, 4, 0, 0);
+        z.delays(0, 15);
+        is("34: far", z.till(1), 20);
+        row("34: MOVED at 16 and at 20", z, 1, 2);
     }
 
     private static void promise35Loudest() {
@@ -967,8 +1088,18 @@ public final class PromisesTest {
         x.sets(1, 4, 0, 1, 0);
         is("35: by groups", x.loudest(12), 4);
         row("35: each", x, 0, 0, 0, 0, 7, 0, 6, 0);
+        x.sets(1, 1, 0, 1, 0);
         is("35: anew each time", x.loudest(1), 4);
-        row("35: each", x, 0, 0, 0, 0, 3, 0, 0, 0);
+        row("35: each", x, 0, 1, 0, 0, 3, 0, 0, 0);
+        DueWheels y = sixteen();
+        is("35: group 0 of equal ones", y.loudest(16), 0);
+        row("35: each", y, 2, 2, 2, 2, 2, 2, 2, 2);
+        y.cancels(0);
+        is("35: group 1", y.loudest(15), 1);
+        row("35: each", y, 1, 2, 2, 2, 2, 2, 2, 1);
+        is("35: the last group", y.loudest(8), 1);
+        y.ticks(7);
+        is("35: group 7 first", y.loudest(1), 7);
     }
 
     private static void promise36Clashes() {
@@ -991,6 +1122,9 @@ public final class PromisesTest {
         row("36: the latest", x, 6, 10, 9);
         is("36: not yet", x.clashes(5), 0);
         row("36: not yet", x, NONE, NONE, NONE);
+        x.cancels(10);
+        is("36: two at once", x.clashes(12), 2);
+        row("36: two at once", x, 6, 9, 8);
     }
 
     private static void promise37Rung() {
