@@ -912,9 +912,10 @@ public final class DueWheels {
         }
 
         int slotFor(int level, int time) {
-            int span = spanOf(level);
-            int size = sizeOf(level);
-            return span < 1 || size < 1 ? 0 : time / span % size;
+            if (level < 0 || level >= MOST_LEVELS || spans[level] < 1 || sizes[level] < 1) {
+                return 0;
+            }
+            return time / spans[level] % sizes[level];
         }
 
         /** The clock at which what lies on a level above 0, or far, is laid anew: its slot's start. */
