@@ -1366,7 +1366,7 @@ public final class DueWheels {
                 case 's':
                     return readsSet(text);
                 case 't':
-                    return readsDigit(text, 1, 9) && keepsNumber();
+                    return readsNumber(text, 1, 1, 9) && keepsNumber();
                 case 'l':
                     return readsLeap(text);
                 case 'c':
@@ -1378,7 +1378,7 @@ public final class DueWheels {
 
         private boolean readsSet(Text text) {
             boolean isRead = readsNumber(text, 4, 1, 9999) && keepsNumber()
-                    && readsSign(text, ',') && readsDigit(text, 0, LAST_SORT);
+                    && readsSign(text, ',') && readsNumber(text, 1, 0, LAST_SORT);
             if (!isRead || length < 0 || length >= MOST_ACTS) {
                 return false;
             }
@@ -1427,16 +1427,6 @@ public final class DueWheels {
                 return fails(place);
             }
             return isWithin(number, least, most) || fails(place - 1);
-        }
-
-        private boolean readsDigit(Text text, int least, int most) {
-            int sign = text.at(place);
-            if (!isDigit(sign) || !isWithin(sign - '0', least, most)) {
-                return fails(place);
-            }
-            number = sign - '0';
-            place++;
-            return true;
         }
 
         private boolean readsSign(Text text, int sign) {

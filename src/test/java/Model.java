@@ -574,7 +574,10 @@ final class Model {
 
     private static final String NUMBER = "[0-9]{1,4}";
     private static final Pattern ACTS = Pattern.compile(
-        "((s" + NUMBER + ",(0|[123]," + NUMBER + ")|t[1-9]|l-?" + NUMBER + "|c[0-9]{1,2})(;|\\z))*");
+        "((s" + NUMBER + ",(0|[1-9]," + NUMBER + ")|t[0-9]|l-?" + NUMBER + "|c[0-9]{1,2})(;|\\z))*");
+    private static final Pattern NUMBERS = Pattern.compile("(?:^|;)(?:s|t|l-?)([0-9]+)(?:,([0-9]+)(?:,([0-9]+))?)?");
+    private static final int[] LEAST = {1, 0, 1};
+    private static final int[] MOST = {9999, 3, 1000};
 
     /** The first place at which no number of digits and no sign could make it right; then numbers that can't be. */
     private static int wrongAt(String acts) {
@@ -601,14 +604,16 @@ final class Model {
 
     /** Of the numbers that end ahead of a place (and are not cut short by a digit too many there). */
     private static int wrongNumber(String acts, int till) {
-        Matcher m = Pattern.compile("(?:(?:^|;)(?:s|l-?)|(,[123],))([0-9]+)").matcher(acts);
+        Matcher m = NUMBERS.matcher(acts);
         while (m.find()) {
-            if (m.end() > till) {
-                return -1;
-            }
-            int v = Integer.parseInt(m.group(2));
-            if (v == 0 || m.group(1) != null && v > 1000) {
-                return m.end() - 1;
+            for (int i = 0; i < 3 && m.group(i + 1) != null; i++) {
+                if (m.end(i + 1) > till) {
+                    return -1;
+                }
+                int v = Integer.parseInt(m.group(i + 1));
+                if (v < LEAST[i] || v > MOST[i]) {
+                    return m.end(i + 1) - 1;
+                }
             }
         }
         return -1;

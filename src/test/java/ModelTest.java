@@ -217,7 +217,7 @@ public final class ModelTest {
             case 2:
                 return "c" + number(2);
             default:
-                String s = "s" + (upTo(5) == 0 ? number(4) : "" + (1 + upTo(30))) + "," + upTo(upTo(30) == 0 ? 10 : 4);
+                String s = "s" + (upTo(5) == 0 ? number(4) : "" + (1 + upTo(30))) + "," + upTo(upTo(20) == 0 ? 50 : 4);
                 return s.endsWith("0") && upTo(20) > 0 ? s
                     : s + "," + (upTo(4) == 0 ? number(4) : "" + (1 + upTo(20)));
         }
