@@ -5,15 +5,29 @@ import java.util.NoSuchElementException;
 final class Check {
     private static int wrong;
     private static int looked;
+    private static String heading = "";
 
     private Check() {
+    }
+
+    /** What is printed ahead of each wrong answer from now on. */
+    static void under(String name) {
+        heading = name.isEmpty() ? "" : name + ": ";
+    }
+
+    static int lookedAt() {
+        return looked;
+    }
+
+    private static void wrong(String what) {
+        wrong++;
+        System.out.println(heading + what);
     }
 
     static void is(String what, long got, long want) {
         looked++;
         if (got != want) {
-            wrong++;
-            System.out.println(what + ": answered " + got + ", due is " + want);
+            wrong(what + ": answered " + got + ", due is " + want);
         }
     }
 
@@ -25,8 +39,7 @@ final class Check {
         looked++;
         long[] got = rowOf(x);
         if (!Arrays.equals(got, want)) {
-            wrong++;
-            System.out.println(what + ": the row is " + Arrays.toString(got) + ", due is " + Arrays.toString(want));
+            wrong(what + ": the row is " + Arrays.toString(got) + ", due is " + Arrays.toString(want));
         }
     }
 
@@ -45,14 +58,12 @@ final class Check {
         } catch (NoSuchElementException e) {
             return;
         }
-        wrong++;
-        System.out.println(what + ": threw nothing, due is NoSuchElementException");
+        wrong(what + ": threw nothing, due is NoSuchElementException");
     }
 
     static void fails(String what) {
         looked++;
-        wrong++;
-        System.out.println(what);
+        wrong(what);
     }
 
     /** Puts a text into an object that has none. */
