@@ -1,7 +1,5 @@
 /** Edges of promises 37 to 40: what was. */
-final class PastEdges {
-    private static final int NONE = Edges.NONE;
-
+final class PastEdges extends EdgeKit {
     private PastEdges() {
     }
 
@@ -12,20 +10,12 @@ final class PastEdges {
         tellRow(e);
     }
 
-    private static void is(String what, long got, long want) {
-        Edges.is(what, got, want);
-    }
-
-    private static void row(String what, DueWheels x, long... want) {
-        Edges.row(what, x, want);
-    }
-
     private static void tellRung(Edges e) {
         e.edge(37, "What RANG, number i of the latest 40 (0 the oldest): the TIMER; the ROW: CLOCK then, what DUE was, "
             + "GROUP, RANG then.", () -> {
-                Edges.asked(() -> Edges.after(Edges.ticking(), Edges.ticks(1)), y -> y.rung(0), 0, 1, 1, 0, 1);
+                asked(() -> after(ticking(), ticks(1)), y -> y.rung(0), 0, 1, 1, 0, 1);
                 for (int ticks : new int[] {39, 40, 41, 79, 80, 81, 100}) {
-                    DueWheels x = Edges.after(Edges.ticking(), Edges.ticks(ticks));
+                    DueWheels x = after(ticking(), ticks(ticks));
                     int kept = Math.min(ticks, 40);
                     is("kept of " + ticks, x.count(7), kept);
                     for (int i = 0; i < kept; i++) {
@@ -35,7 +25,7 @@ final class PastEdges {
                     }
                     is("no more of " + ticks, x.rung(kept), NONE);
                 }
-                DueWheels y = Edges.ticking();
+                DueWheels y = ticking();
                 y.sets(2, 7, 0, 1, 0);
                 y.leaps(9);
                 is("by a LEAP", y.rung(1), 1);
@@ -49,26 +39,26 @@ final class PastEdges {
                 row("with its own GROUP", y, 10, 10, 5, 1);
             });
         e.edge(37, "NONE: none such.", () -> {
-            Edges.refused(DueWheels::new, NONE, y -> y.rung(0), y -> y.rung(-1), y -> y.rung(39));
-            Edges.refused(Edges::busy, NONE, y -> y.rung(3), y -> y.rung(-1), y -> y.rung(39), y -> y.rung(40),
+            refused(DueWheels::new, NONE, y -> y.rung(0), y -> y.rung(-1), y -> y.rung(39));
+            refused(EdgeKit::busy, NONE, y -> y.rung(3), y -> y.rung(-1), y -> y.rung(39), y -> y.rung(40),
                 y -> y.rung(Integer.MIN_VALUE), y -> y.rung(Integer.MAX_VALUE));
-            is("the last there is", Edges.busy().rung(2), 1);
-            Edges.refused(() -> Edges.after(Edges.ticking(), Edges.ticks(100)), NONE, y -> y.rung(40), y -> y.rung(-1),
+            is("the last there is", busy().rung(2), 1);
+            refused(() -> after(ticking(), ticks(100)), NONE, y -> y.rung(40), y -> y.rung(-1),
                 y -> y.rung(41), y -> y.rung(100));
-            is("the last of 40", Edges.after(Edges.ticking(), Edges.ticks(100)).rung(39), 0);
+            is("the last of 40", after(ticking(), ticks(100)).rung(39), 0);
         });
     }
 
     private static void tellTold(Edges e) {
         e.edge(38, "3: cancelled (by groups, too)", () -> {
-            DueWheels x = Edges.sixteen();
+            DueWheels x = sixteen();
             x.cancels(0);
             x.cancels(0);
             is("one", x.told(3), 1);
             x.cancelsAll(7);
             x.cancelsAll(7);
             is("two by groups", x.told(3), 3);
-            Edges.run(x, "c1;c1");
+            run(x, "c1;c1");
             is("by run()", x.told(3), 4);
             x.leaps(1000);
             is("what goes as it RINGS is not", x.told(3), 4);
@@ -82,7 +72,7 @@ final class PastEdges {
             x.leaps(-3);
             x.leaps(1);
             x.leaps(-999998);
-            Edges.run(x, "l7;l-5");
+            run(x, "l7;l-5");
             is("ahead", x.told(4), 1000008);
             is("back", x.told(5), 1000006);
             x.would(5);
@@ -106,21 +96,21 @@ final class PastEdges {
             is("more than are kept", x.told(0), 52);
         });
         e.edge(38, "6: set", () -> {
-            DueWheels x = Edges.sixteen();
+            DueWheels x = sixteen();
             x.sets(1, 0, 0, 1, 0);
             x.sets(0, 0, 0, 1, 0);
             is("refused ones are none", x.told(6), 16);
             x.cancels(3);
-            Edges.run(x, "s5,0");
+            run(x, "s5,0");
             is("by run()", x.told(6), 17);
         });
-        e.edge(38, "NONE for another what.", () -> Edges.refused(Edges::busy, NONE, y -> y.told(-1), y -> y.told(7),
+        e.edge(38, "NONE for another what.", () -> refused(EdgeKit::busy, NONE, y -> y.told(-1), y -> y.told(7),
             y -> y.told(Integer.MIN_VALUE), y -> y.told(Integer.MAX_VALUE)));
     }
 
     private static void tellCount(Edges e) {
         e.edge(39, "3: TIMERS, 4: PAUSED ones, 5: FAR ones", () -> {
-            DueWheels x = Edges.sixteen();
+            DueWheels x = sixteen();
             is("TIMERS", x.count(3), 16);
             is("none PAUSED", x.count(4), 0);
             is("all FAR", x.count(5), 16);
@@ -136,7 +126,7 @@ final class PastEdges {
             is("none", x.count(3) + x.count(4) + x.count(5), 0);
         });
         e.edge(39, "7: numbers of what RANG that are kept", () -> {
-            DueWheels x = Edges.ticking();
+            DueWheels x = ticking();
             is("none", x.count(7), 0);
             x.ticks(1);
             is("one", x.count(7), 1);
@@ -192,13 +182,13 @@ final class PastEdges {
             is("LEVELS", x.count(1), 1);
             is("WHOLE", x.count(2), 2);
         });
-        e.edge(39, "NONE for another what.", () -> Edges.refused(Edges::busy, NONE, y -> y.count(-1), y -> y.count(14),
+        e.edge(39, "NONE for another what.", () -> refused(EdgeKit::busy, NONE, y -> y.count(-1), y -> y.count(14),
             y -> y.count(Integer.MIN_VALUE), y -> y.count(Integer.MAX_VALUE)));
     }
 
     private static void tellRow(Edges e) {
         e.edge(40, "Number i of the ROW.", () -> {
-            DueWheels x = Edges.after(Edges.ticking(), Edges.ticks(100));
+            DueWheels x = after(ticking(), ticks(100));
             is("the first", x.row(0), 0);
             is("the second", x.row(1), 81);
             is("the last", x.row(39), 100);
@@ -208,12 +198,12 @@ final class PastEdges {
             is("one below 0", x.row(0), -49);
         });
         e.edge(40, "NoSuchElementException: none such.", () -> {
-            Edges.noSuch(DueWheels::new, y -> y.row(0), y -> y.row(-1), y -> y.row(1));
-            Edges.noSuch(Edges::busy, y -> y.row(3), y -> y.row(-1), y -> y.row(39), y -> y.row(40),
+            noSuch(DueWheels::new, y -> y.row(0), y -> y.row(-1), y -> y.row(1));
+            noSuch(EdgeKit::busy, y -> y.row(3), y -> y.row(-1), y -> y.row(39), y -> y.row(40),
                 y -> y.row(Integer.MIN_VALUE), y -> y.row(Integer.MAX_VALUE));
-            is("the last there is", Edges.busy().row(2), 5);
-            Edges.noSuch(() -> Edges.after(Edges.ticking(), Edges.ticks(100)), y -> y.row(40), y -> y.row(-1));
-            Edges.noSuch(() -> Edges.after(Edges.busy(), y -> y.group(0)), y -> y.row(0), y -> y.row(2));
+            is("the last there is", busy().row(2), 5);
+            noSuch(() -> after(ticking(), ticks(100)), y -> y.row(40), y -> y.row(-1));
+            noSuch(() -> after(busy(), y -> y.group(0)), y -> y.row(0), y -> y.row(2));
         });
     }
 }

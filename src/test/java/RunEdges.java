@@ -1,5 +1,5 @@
 /** Edges of promise 16: the texts that run() reads. */
-final class RunEdges {
+final class RunEdges extends EdgeKit {
     private RunEdges() {
     }
 
@@ -11,31 +11,23 @@ final class RunEdges {
         tellWrong(e);
     }
 
-    private static void is(String what, long got, long want) {
-        Edges.is(what, got, want);
-    }
-
-    private static void row(String what, DueWheels x, long... want) {
-        Edges.row(what, x, want);
-    }
-
     /** On a new object all of so many acts are done. */
     private static DueWheels done(String text, int acts) {
         DueWheels x = new DueWheels();
-        is(text, Edges.run(x, text), acts);
+        is(text, run(x, text), acts);
         is(text + ", all were done", x.row(0), 0);
         return x;
     }
 
     /** The sign at this place can't stand there: nothing is done, the text is emptied, the row stays. */
     private static void wrong(String text, int place) {
-        DueWheels x = Edges.busy();
-        is(text, Edges.run(x, text), -1 - place);
+        DueWheels x = busy();
+        is(text, run(x, text), -1 - place);
         is(text + ", is emptied", x.count(9), 0);
         row(text + ", the row stays", x, 3, 4, 5);
-        DueWheels left = Edges.busy();
+        DueWheels left = busy();
         left.end(0);
-        Edges.same(text + ", nothing is done", x, left);
+        same(text + ", nothing is done", x, left);
     }
 
     private static String many(String act, int acts) {
@@ -50,7 +42,7 @@ final class RunEdges {
         e.edge(16, "THE TEXT tells ACTS with ; between (an empty one: none)", () -> {
             DueWheels x = done("", 0);
             row("of none", x, 0, 0);
-            is("none of a text that was cut to none", Edges.after(Edges.busy(), y -> y.end(0) ? 1 : 0).run(), 0);
+            is("none of a text that was cut to none", after(busy(), y -> y.end(0) ? 1 : 0).run(), 0);
             done("t1", 1);
             done("t1;t1", 2);
             is("33 acts in 98 signs", done(many("t1", 33), 33).count(0), 33);
@@ -155,8 +147,8 @@ final class RunEdges {
             is("TIMES", x.timer(0, 7), 0);
             is("set", x.told(6), 1);
             is("it RINGS on", x.ticks(100), 100);
-            DueWheels y = Edges.sixteen();
-            is("a seventeenth can't be", Edges.run(y, "s1,0;t1"), 0);
+            DueWheels y = sixteen();
+            is("a seventeenth can't be", run(y, "s1,0;t1"), 0);
             row("a seventeenth can't be", y, 1, 0);
         });
     }
@@ -170,8 +162,8 @@ final class RunEdges {
             wrong("t10", 2);
             wrong("t1000", 2);
             wrong("t99", 2);
-            DueWheels x = Edges.nearTheEnd(3);
-            is("past the last CLOCK", Edges.run(x, "t3;t1;t1"), 1);
+            DueWheels x = nearTheEnd(3);
+            is("past the last CLOCK", run(x, "t3;t1;t1"), 1);
             row("past the last CLOCK", x, 1, 3);
         });
         e.edge(16, "l, - or not, and a number (one to four digits, above 0): a LEAP", () -> {
@@ -192,17 +184,17 @@ final class RunEdges {
             wrong("l-", 2);
             wrong("l-;", 2);
             DueWheels x = new DueWheels();
-            is("below 0", Edges.run(x, "l5;l-6;t1"), 1);
+            is("below 0", run(x, "l5;l-6;t1"), 1);
             row("below 0", x, 1, 0);
             is("CLOCK", x.count(0), 5);
         });
         e.edge(16, "c and a number (one or two digits): cancels()", () -> {
-            DueWheels x = Edges.sixteen();
-            is("0, 01, 15", Edges.run(x, "c0;c01;c15"), 3);
+            DueWheels x = sixteen();
+            is("0, 01, 15", run(x, "c0;c01;c15"), 3);
             is("three are gone", x.count(3), 13);
             is("told", x.told(3), 3);
             for (String none : new String[] {"c0", "c00", "c15", "c16", "c99"}) {
-                is(none + ": none such, but it can stand", Edges.run(x, none), 0);
+                is(none + ": none such, but it can stand", run(x, none), 0);
                 row(none, x, 1, 0);
             }
             wrong("c", 1);
@@ -215,26 +207,26 @@ final class RunEdges {
     private static void tellDone(Edges e) {
         e.edge(16, "they are done one by one, till one can't be: how many were done", () -> {
             DueWheels x = new DueWheels();
-            is("none", Edges.run(x, "c0;t1"), 0);
+            is("none", run(x, "c0;t1"), 0);
             is("CLOCK", x.count(0), 0);
-            is("two", Edges.run(x, "s1,0;c0;c0;t9"), 2);
+            is("two", run(x, "s1,0;c0;c0;t9"), 2);
             is("CLOCK", x.count(0), 0);
-            is("one set and rung is gone", Edges.run(x, "s1,0;t1;c0"), 2);
+            is("one set and rung is gone", run(x, "s1,0;t1;c0"), 2);
             is("CLOCK", x.count(0), 1);
-            is("the last can't be", Edges.run(x, "t1;t1;l-4"), 2);
-            is("all", Edges.run(x, "t1;t1;l-4"), 3);
+            is("the last can't be", run(x, "t1;t1;l-4"), 2);
+            is("all", run(x, "t1;t1;l-4"), 3);
             is("CLOCK", x.count(0), 1);
             is("the text is empty", x.count(9), 0);
         });
         e.edge(16, "the ROW: 1 if one could not be, else 0, how many RANG in these", () -> {
             DueWheels x = new DueWheels();
-            is("by TICKS and a LEAP", Edges.run(x, "s1,1,1;t9;l100;t1"), 4);
+            is("by TICKS and a LEAP", run(x, "s1,1,1;t9;l100;t1"), 4);
             row("9, 1 and 1", x, 0, 11);
-            is("none", Edges.run(x, "l-9"), 1);
+            is("none", run(x, "l-9"), 1);
             row("none, of these alone", x, 0, 0);
-            is("one can't be", Edges.run(x, "l9;t2;c9;t9"), 2);
+            is("one can't be", run(x, "l9;t2;c9;t9"), 2);
             row("what RANG before it", x, 1, 2);
-            is("the first can't be", Edges.run(x, "c9"), 0);
+            is("the first can't be", run(x, "c9"), 0);
             row("the first can't be", x, 1, 0);
         });
     }

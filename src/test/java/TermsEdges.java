@@ -1,7 +1,6 @@
 /** Edges that the document's terms name: wheels, laying, a TICK, ringing, a LEAP, what is refused. */
-final class TermsEdges {
+final class TermsEdges extends EdgeKit {
     private static final int TERMS = Edges.TERMS;
-    private static final int NONE = Edges.NONE;
 
     private TermsEdges() {
     }
@@ -16,18 +15,6 @@ final class TermsEdges {
         tellLeap(e);
         tellPaused(e);
         tellRow(e);
-    }
-
-    private static void is(String what, long got, long want) {
-        Edges.is(what, got, want);
-    }
-
-    private static void row(String what, DueWheels x, long... want) {
-        Edges.row(what, x, want);
-    }
-
-    private static void lies(String what, DueWheels x, int timer, int level, int slot) {
-        Edges.lies(what, x, timer, level, slot);
     }
 
     private static void tellWheels(Edges e) {
@@ -57,7 +44,7 @@ final class TermsEdges {
             is("no SLOT 16 of 16", x.slot(1, 16), NONE);
         });
         e.edge(TERMS, "SPAN of LEVEL k: SIZES of all LEVELS below it, multiplied (LEVEL 0: 1).", () -> {
-            DueWheels x = Edges.some(2, 14, 104, 209);
+            DueWheels x = some(2, 14, 104, 209);
             x.wheels(3, 5, 7, 2);
             lies("SPAN 1", x, 0, 0, 2);
             lies("SPAN 3", x, 1, 1, 14 / 3);
@@ -78,11 +65,11 @@ final class TermsEdges {
             DueWheels x = new DueWheels();
             is("at first", x.count(0), 0);
             is("none below 0", x.leaps(-1), -4);
-            DueWheels y = Edges.nearTheEnd(1);
+            DueWheels y = nearTheEnd(1);
             is("up to the last", y.ticks(1), 1);
-            is("the last", y.count(0), Edges.LAST_CLOCK);
+            is("the last", y.count(0), LAST_CLOCK);
             is("none above", y.ticks(1), -4);
-            is("it stays", y.count(0), Edges.LAST_CLOCK);
+            is("it stays", y.count(0), LAST_CLOCK);
         });
     }
 
@@ -101,7 +88,7 @@ final class TermsEdges {
             is("no more", x.sets(50, 0, 0, 1, 0), -3);
         });
         e.edge(TERMS, "ARRIVAL (how many were set ahead of it since all began)", () -> {
-            DueWheels x = Edges.some(5, 6, 7);
+            DueWheels x = some(5, 6, 7);
             is("of the first", x.timer(0, 3), 0);
             is("of the third", x.timer(2, 3), 2);
             x.cancels(0);
@@ -142,21 +129,21 @@ final class TermsEdges {
 
     private static void tellLaying(Edges e) {
         e.edge(TERMS, "The lowest LEVEL k of which SIZE times SPAN is more than D", () -> {
-            DueWheels x = Edges.some(1, 3, 4, 15, 16, 63);
+            DueWheels x = some(1, 3, 4, 15, 16, 63);
             lies("D 1", x, 0, 0, 1);
             lies("D 3", x, 1, 0, 3);
             lies("D 4", x, 2, 1, 1);
             lies("D 15", x, 3, 1, 3);
             lies("D 16", x, 4, 2, 1);
             lies("D 63", x, 5, 2, 3);
-            DueWheels y = Edges.after(new DueWheels(), Edges.ticks(2));
+            DueWheels y = after(new DueWheels(), ticks(2));
             y.sets(3, 0, 0, 1, 0);
             y.sets(4, 0, 0, 1, 0);
             is("D from CLOCK", y.timer(0, 1), 0);
             is("D 4 from CLOCK", y.timer(1, 1), 1);
         });
         e.edge(TERMS, "there SLOT DUE by SPAN (cut) modulo SIZE", () -> {
-            DueWheels x = Edges.after(new DueWheels(), Edges.ticks(2));
+            DueWheels x = after(new DueWheels(), ticks(2));
             x.sets(1, 0, 0, 1, 0);
             x.sets(2, 0, 0, 1, 0);
             x.sets(3, 0, 0, 1, 0);
@@ -176,11 +163,11 @@ final class TermsEdges {
             row("DUE 16", x, 4, 16);
         });
         e.edge(TERMS, "If there is none, it is FAR.", () -> {
-            DueWheels x = Edges.some(63, 64, 1000000);
+            DueWheels x = some(63, 64, 1000000);
             lies("D 63", x, 0, 2, 3);
             lies("D 64", x, 1, NONE, NONE);
             lies("D 1000000", x, 2, NONE, NONE);
-            DueWheels y = Edges.some(65535, 65536);
+            DueWheels y = some(65535, 65536);
             y.wheels(16, 16, 16, 16);
             lies("D 65535", y, 0, 3, 15);
             lies("D 65536", y, 1, NONE, NONE);
@@ -191,10 +178,10 @@ final class TermsEdges {
             lies("D 2 of WHOLE 2", y, 3, NONE, NONE);
         });
         e.edge(TERMS, "There it stays till it is LAID anew.", () -> {
-            DueWheels x = Edges.some(31, 79);
+            DueWheels x = some(31, 79);
             x.ticks(15);
             lies("D 16", x, 0, 2, 1);
-            DueWheels y = Edges.some(16, 79);
+            DueWheels y = some(16, 79);
             y.ticks(15);
             lies("D 1, on LEVEL 2 still", y, 0, 2, 1);
             y.ticks(48);
@@ -214,7 +201,7 @@ final class TermsEdges {
             is("a hundred more", x.count(0), 101);
         });
         e.edge(TERMS, "If CLOCK is a multiple of WHOLE, all that are FAR and of which D is below WHOLE are LAID.", () -> {
-            DueWheels x = Edges.some(127, 128, 100, 64);
+            DueWheels x = some(127, 128, 100, 64);
             x.ticks(63);
             is("none is LAID at 63", x.far(), 4);
             is("64 RINGS as it is LAID", x.ticks(1), 1);
@@ -228,7 +215,7 @@ final class TermsEdges {
         });
         e.edge(TERMS, "Then, from the highest LEVEL down to LEVEL 1, if CLOCK is a multiple of its SPAN, all TIMERS in "
             + "its SLOT CLOCK by SPAN modulo SIZE are LAID anew.", () -> {
-                DueWheels x = Edges.some(16, 21, 31, 32, 5);
+                DueWheels x = some(16, 21, 31, 32, 5);
                 x.ticks(3);
                 lies("LEVEL 1 at 3", x, 4, 1, 1);
                 x.ticks(1);
@@ -241,7 +228,7 @@ final class TermsEdges {
                 lies("another SLOT stays", x, 3, 2, 2);
                 x.ticks(4);
                 lies("LEVEL 1 at 20", x, 1, 0, 1);
-                DueWheels y = Edges.after(new DueWheels(), Edges.ticks(14));
+                DueWheels y = after(new DueWheels(), ticks(14));
                 y.sets(14, 0, 0, 1, 0);
                 y.sets(3, 0, 0, 1, 0);
                 y.sets(50, 0, 0, 1, 0);
@@ -257,7 +244,7 @@ final class TermsEdges {
                 is("64", y.ticks(1), 1);
             });
         e.edge(TERMS, "(Each TIMER LAID so is MOVED by it.)", () -> {
-            DueWheels x = Edges.some(85);
+            DueWheels x = some(85);
             x.ticks(63);
             is("none yet", x.told(1), 0);
             x.ticks(1);
@@ -270,16 +257,16 @@ final class TermsEdges {
             is("LEVEL 1 to 0", x.told(1), 3);
             is("RINGS", x.ticks(1), 1);
             is("no more", x.told(1), 3);
-            DueWheels y = Edges.ticking();
+            DueWheels y = ticking();
             y.ticks(100);
             is("LAID as it rang is not MOVED", y.told(1), 0);
-            DueWheels z = Edges.some(40);
+            DueWheels z = some(40);
             z.wheels(16, 0, 0, 0);
             z.ticks(40);
             is("one LEVEL: once, from FAR", z.told(1), 1);
         });
         e.edge(TERMS, "Then all of SLOT CLOCK modulo SIZE of LEVEL 0 RING", () -> {
-            DueWheels x = Edges.some(1, 2, 3, 4, 16, 64, 128);
+            DueWheels x = some(1, 2, 3, 4, 16, 64, 128);
             for (int i = 1; i <= 4; i++) {
                 is("at " + i, x.ticks(1), 1);
                 row("at " + i, x, i - 1, i);
@@ -288,7 +275,7 @@ final class TermsEdges {
             row("16", x, 4, 16);
             is("64, from FAR", x.ticks(1), 1);
             row("64", x, 5, 64);
-            DueWheels y = Edges.after(new DueWheels(), Edges.ticks(3));
+            DueWheels y = after(new DueWheels(), ticks(3));
             y.sets(1, 0, 0, 1, 0);
             y.sets(3, 0, 0, 1, 0);
             is("SLOT 0 behind SLOT 3", y.ticks(1), 1);
@@ -340,7 +327,7 @@ final class TermsEdges {
 
     private static void tellRinging(Edges e) {
         e.edge(TERMS, "It RINGS: RANG is 1 more.", () -> {
-            DueWheels x = Edges.ticking();
+            DueWheels x = ticking();
             x.ticks(1);
             is("one", x.timer(0, 8), 1);
             x.leaps(50);
@@ -444,7 +431,7 @@ final class TermsEdges {
             is("back to 0", x.count(0), 0);
         });
         e.edge(TERMS, "STEADY ones: DUE is n more, too.", () -> {
-            DueWheels x = Edges.some(5, 5);
+            DueWheels x = some(5, 5);
             x.steady(0, true);
             is("the other one RINGS", x.leaps(1000), 1);
             is("ahead", x.timer(0, 0), 1005);
@@ -453,7 +440,7 @@ final class TermsEdges {
             lies("where it was", x, 0, 1, 1);
         });
         e.edge(TERMS, "PAUSED ones are as they are.", () -> {
-            DueWheels x = Edges.some(5, 7);
+            DueWheels x = some(5, 7);
             x.pauses(0);
             x.pauses(1);
             x.steady(1, true);
@@ -483,7 +470,7 @@ final class TermsEdges {
                 is("RANG", x.timer(0, 8), 2);
             });
         e.edge(TERMS, "Then all that are not PAUSED are LAID anew (not MOVED by that).", () -> {
-            DueWheels x = Edges.some(70, 80, 90, 100);
+            DueWheels x = some(70, 80, 90, 100);
             x.steady(2, true);
             x.pauses(3);
             x.leaps(68);
@@ -494,7 +481,7 @@ final class TermsEdges {
             x.leaps(-40);
             lies("D 42", x, 0, 2, 70 / 16 % 4);
             is("not MOVED", x.told(1), 0);
-            DueWheels y = Edges.some(20);
+            DueWheels y = some(20);
             y.steady(0, true);
             y.leaps(4);
             lies("a STEADY one, by its new DUE", y, 0, 2, 24 / 16);
@@ -507,7 +494,7 @@ final class TermsEdges {
 
     private static void tellPaused(Edges e) {
         e.edge(TERMS, "PAUSED: it lies nowhere; it keeps D (DUE less CLOCK) as its REST.", () -> {
-            DueWheels x = Edges.some(3, 70);
+            DueWheels x = some(3, 70);
             x.ticks(2);
             is("REST", x.pauses(0), 1);
             is("REST of a far one", x.pauses(1), 68);
@@ -524,9 +511,9 @@ final class TermsEdges {
 
     private static void tellRow(Edges e) {
         e.edge(TERMS, "ROW: numbers told last by a call that says so.", () -> {
-            DueWheels x = Edges.busy();
+            DueWheels x = busy();
             row("group", x, 3, 4, 5);
-            Edges.after(x, y -> y.sets(9, 0, 0, 1, 0), y -> y.order(1), y -> y.steady(0, true), y -> y.pauses(1),
+            after(x, y -> y.sets(9, 0, 0, 1, 0), y -> y.order(1), y -> y.steady(0, true), y -> y.pauses(1),
                 y -> y.resumes(1), y -> y.holds(1), y -> y.goesOn(1), y -> y.moves(2), y -> y.told(0), y -> y.count(0),
                 y -> y.timer(2, 0), y -> y.sign(0), y -> y.end(0) ? 1 : 0, y -> y.wheels(5, 5, 5, 0),
                 y -> y.cancels(6), y -> y.cancelsAll(7));
@@ -544,39 +531,39 @@ final class TermsEdges {
     }
 
     private static void questions() {
-        Edges.Call[] all = {y -> y.timer(0, 0), y -> y.slot(0, 1), y -> y.far(), y -> y.group(3), y -> y.full(1),
+        Call[] all = {y -> y.timer(0, 0), y -> y.slot(0, 1), y -> y.far(), y -> y.group(3), y -> y.full(1),
             y -> y.next(), y -> y.rings(100), y -> y.quiet(100), y -> y.moves(3), y -> y.cost(2, 3, 4, 5),
             y -> y.best(3), y -> y.ahead(0, 1), y -> y.way(3), y -> y.would(1000), y -> y.busiest(100),
             y -> y.till(5), y -> y.loudest(100), y -> y.clashes(100), y -> y.rung(0), y -> y.told(0),
             y -> y.count(0), y -> y.row(0)};
         for (int i = 0; i < all.length; i++) {
-            DueWheels x = Edges.busy();
+            DueWheels x = busy();
             Check.is("question " + i + " is answered", all[i].of(x) >= 0, true);
-            Edges.same("question " + i, x, Edges.busy());
+            same("question " + i, x, busy());
         }
     }
 
     private static void refusals() {
-        Edges.refused(Edges::busy, NONE, y -> y.wheels(1, 0, 0, 0), y -> y.order(3), y -> y.ticks(101),
+        refused(EdgeKit::busy, NONE, y -> y.wheels(1, 0, 0, 0), y -> y.order(3), y -> y.ticks(101),
             y -> y.leaps(0), y -> y.sets(0, 0, 0, 1, 0), y -> y.cancels(6), y -> y.cancelsAll(8),
             y -> y.steady(6, true), y -> y.pauses(6), y -> y.resumes(6), y -> y.holds(8), y -> y.goesOn(8),
             y -> y.spreads(3, 1001), y -> y.delays(0, 0), y -> y.slot(3, 0), y -> y.group(8), y -> y.full(3),
             y -> y.rings(0), y -> y.quiet(0), y -> y.moves(6), y -> y.cost(0, 0, 0, 0), y -> y.best(0),
             y -> y.ahead(0, 0), y -> y.way(6), y -> y.would(0), y -> y.busiest(0), y -> y.till(0),
             y -> y.loudest(0), y -> y.clashes(0), y -> y.rung(40), y -> y.told(7), y -> y.count(14));
-        DueWheels x = Edges.busy();
+        DueWheels x = busy();
         x.end(0);
         Check.text(x, "x1");
         is("a TEXT that can't be", x.run(), NONE);
         is("is emptied", x.count(9), 0);
         row("the ROW stays", x, 3, 4, 5);
-        DueWheels same = Edges.busy();
+        DueWheels same = busy();
         same.end(0);
-        Edges.same("nothing else is changed", x, same);
+        same("nothing else is changed", x, same);
     }
 
     private static void noneAhead() {
-        DueWheels x = Edges.sixteen();
+        DueWheels x = sixteen();
         is("-3 of sets", x.sets(1, 0, 0, 1, 0), -3);
         is("NONE of sets", x.sets(1, 0, 0, 1, 100), NONE);
         x.holds(3);
@@ -593,7 +580,7 @@ final class TermsEdges {
         is("NONE of loudest", x.loudest(101), NONE);
         is("-2 of till", x.till(100), -2);
         is("NONE of till", x.till(101), NONE);
-        DueWheels y = Edges.nearTheEnd(50);
+        DueWheels y = nearTheEnd(50);
         is("-4 of ticks", y.ticks(51), -4);
         is("NONE of ticks", y.ticks(101), NONE);
         is("-4 of leaps ahead", y.leaps(1000000), -4);
@@ -608,18 +595,18 @@ final class TermsEdges {
     }
 
     private static void rowStays() {
-        Edges.refused(Edges::busy, -2, y -> y.wheels(4, 4, 4, 0), y -> y.order(0), y -> y.steady(4, true),
+        refused(EdgeKit::busy, -2, y -> y.wheels(4, 4, 4, 0), y -> y.order(0), y -> y.steady(4, true),
             y -> y.steady(0, false), y -> y.pauses(5), y -> y.resumes(0), y -> y.spreads(1, 5),
             y -> y.delays(2, 24), y -> y.delays(5, 6), y -> y.moves(5), y -> y.ahead(0, 5), y -> y.way(5),
             y -> y.till(100));
-        Edges.refused(Edges::busy, -4, y -> y.leaps(-7), y -> y.would(-7));
-        Edges.refused(Edges::sixteen, -3, y -> y.sets(1, 0, 0, 1, 0));
-        Edges.refused(Edges::sixteen, -2, y -> y.loudest(100), y -> y.till(1));
-        Edges.refused(() -> Edges.nearTheEnd(1), -4, y -> y.ticks(2), y -> y.leaps(2), y -> y.rings(2),
+        refused(EdgeKit::busy, -4, y -> y.leaps(-7), y -> y.would(-7));
+        refused(EdgeKit::sixteen, -3, y -> y.sets(1, 0, 0, 1, 0));
+        refused(EdgeKit::sixteen, -2, y -> y.loudest(100), y -> y.till(1));
+        refused(() -> nearTheEnd(1), -4, y -> y.ticks(2), y -> y.leaps(2), y -> y.rings(2),
             y -> y.quiet(2), y -> y.would(2), y -> y.busiest(2), y -> y.till(1), y -> y.loudest(2), y -> y.clashes(2));
-        DueWheels x = Edges.busy();
+        DueWheels x = busy();
         for (String text : new String[] {"x", "t", "t10", "t1;", "s5,0;c1;l-0", "s5,1,1001"}) {
-            is("a TEXT that can't be", Edges.run(x, text) < 0 ? 1 : 0, 1);
+            is("a TEXT that can't be", run(x, text) < 0 ? 1 : 0, 1);
             row("the ROW stays", x, 3, 4, 5);
         }
     }

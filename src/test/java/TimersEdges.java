@@ -1,14 +1,5 @@
-import java.util.function.IntFunction;
-
 /** Edges of promises 6 to 18: timers. */
-final class TimersEdges {
-    private static final int NONE = Edges.NONE;
-    /** No group of any object. */
-    private static final int[] NO_GROUPS = {-1, 8, 16, Integer.MIN_VALUE, Integer.MAX_VALUE};
-    /** No timer of busy(): below, the first that is free, the last, above. */
-    private static final int[] NO_TIMERS = {-1, 6, 15, 16, Integer.MIN_VALUE, Integer.MAX_VALUE};
-    private static final int[] NO_DELAYS = {0, -1, 1000001, Integer.MIN_VALUE, Integer.MAX_VALUE};
-
+final class TimersEdges extends EdgeKit {
     private TimersEdges() {
     }
 
@@ -25,23 +16,9 @@ final class TimersEdges {
         tellEnd(e);
     }
 
-    private static void is(String what, long got, long want) {
-        Edges.is(what, got, want);
-    }
-
-    private static void row(String what, DueWheels x, long... want) {
-        Edges.row(what, x, want);
-    }
-
-    private static void noneEach(int[] arguments, IntFunction<Edges.Call> call) {
-        for (int argument : arguments) {
-            Edges.refused(Edges::busy, NONE, call.apply(argument));
-        }
-    }
-
     private static void tellSets(Edges e) {
         e.edge(6, "DUE is CLOCK and delay (1 .. 1000000): its number.", () -> {
-            DueWheels x = Edges.after(new DueWheels(), Edges.ticks(3));
+            DueWheels x = after(new DueWheels(), ticks(3));
             is("the least", x.sets(1, 0, 0, 1, 0), 0);
             is("DUE", x.timer(0, 0), 4);
             is("the greatest", x.sets(1000000, 0, 0, 1, 0), 1);
@@ -51,9 +28,9 @@ final class TimersEdges {
             is("RINGS", x.ticks(1), 1);
         });
         e.edge(6, "A TIMER is set and LAID", () -> {
-            DueWheels x = Edges.after(new DueWheels(), Edges.ticks(3));
+            DueWheels x = after(new DueWheels(), ticks(3));
             x.sets(3, 7, 3, 1000, 99);
-            Edges.lies("DUE 6", x, 0, 0, 2);
+            lies("DUE 6", x, 0, 0, 2);
             is("ARRIVAL", x.timer(0, 3), 0);
             is("GROUP", x.timer(0, 4), 7);
             is("SORT", x.timer(0, 5), 3);
@@ -67,45 +44,45 @@ final class TimersEdges {
             is("set so far", x.told(6), 2);
         });
         e.edge(6, "-3: there are 16", () -> {
-            Edges.refused(Edges::sixteen, -3, y -> y.sets(1, 0, 0, 1, 0), y -> y.sets(1000000, 7, 3, 1000, 99));
-            Edges.refused(() -> Edges.after(Edges.sixteen(), y -> y.holds(0)), -3, y -> y.sets(1, 0, 0, 1, 0));
-            is("as one is gone there is room", Edges.after(Edges.sixteen(), y -> y.cancels(15)).sets(1, 0, 0, 1, 0), 15);
-            DueWheels x = Edges.sixteen();
+            refused(EdgeKit::sixteen, -3, y -> y.sets(1, 0, 0, 1, 0), y -> y.sets(1000000, 7, 3, 1000, 99));
+            refused(() -> after(sixteen(), y -> y.holds(0)), -3, y -> y.sets(1, 0, 0, 1, 0));
+            is("as one is gone there is room", after(sixteen(), y -> y.cancels(15)).sets(1, 0, 0, 1, 0), 15);
+            DueWheels x = sixteen();
             x.cancels(0);
             is("fifteen: one more", x.sets(1, 0, 0, 1, 0), 0);
             is("sixteen: none", x.sets(1, 0, 0, 1, 0), -3);
         });
         e.edge(6, "NONE: another delay", () -> {
             noneEach(NO_DELAYS, v -> y -> y.sets(v, 0, 0, 1, 0));
-            Edges.refused(Edges::sixteen, NONE, y -> y.sets(0, 0, 0, 1, 0), y -> y.sets(1000001, 0, 0, 1, 0));
+            refused(EdgeKit::sixteen, NONE, y -> y.sets(0, 0, 0, 1, 0), y -> y.sets(1000001, 0, 0, 1, 0));
         });
         e.edge(6, "NONE: another delay, GROUP", () -> {
             noneEach(NO_GROUPS, v -> y -> y.sets(1, v, 0, 1, 0));
-            Edges.refused(Edges::sixteen, NONE, y -> y.sets(1, 8, 0, 1, 0));
+            refused(EdgeKit::sixteen, NONE, y -> y.sets(1, 8, 0, 1, 0));
         });
         e.edge(6, "NONE: another delay, GROUP, SORT", () -> {
             noneEach(new int[] {-1, 4, Integer.MIN_VALUE, Integer.MAX_VALUE}, v -> y -> y.sets(1, 0, v, 1, 0));
-            Edges.refused(Edges::sixteen, NONE, y -> y.sets(1, 0, 4, 1, 0));
+            refused(EdgeKit::sixteen, NONE, y -> y.sets(1, 0, 4, 1, 0));
         });
         e.edge(6, "NONE: another delay, GROUP, SORT, PERIOD", () -> {
             for (int sort = 0; sort < 4; sort++) {
                 int of = sort;
                 noneEach(new int[] {0, -1, 1001, Integer.MIN_VALUE, Integer.MAX_VALUE}, v -> y -> y.sets(1, 0, of, v, 0));
             }
-            Edges.refused(Edges::sixteen, NONE, y -> y.sets(1, 0, 0, 0, 0));
+            refused(EdgeKit::sixteen, NONE, y -> y.sets(1, 0, 0, 0, 0));
         });
         e.edge(6, "times not 0 .. 99", () -> {
             for (int sort = 0; sort < 4; sort++) {
                 int of = sort;
                 noneEach(new int[] {-1, 100, Integer.MIN_VALUE, Integer.MAX_VALUE}, v -> y -> y.sets(1, 0, of, 1, v));
             }
-            Edges.refused(Edges::sixteen, NONE, y -> y.sets(1, 0, 0, 1, 100));
+            refused(EdgeKit::sixteen, NONE, y -> y.sets(1, 0, 0, 1, 100));
         });
     }
 
     private static void tellCancels(Edges e) {
         e.edge(7, "A TIMER goes: how many are left.", () -> {
-            DueWheels x = Edges.sixteen();
+            DueWheels x = sixteen();
             is("the first", x.cancels(0), 15);
             is("the last", x.cancels(15), 14);
             x.pauses(3);
@@ -123,12 +100,12 @@ final class TimersEdges {
         });
         e.edge(7, "NONE: none such.", () -> {
             noneEach(NO_TIMERS, v -> y -> y.cancels(v));
-            Edges.refused(() -> Edges.after(Edges.busy(), y -> y.cancels(2)), NONE, y -> y.cancels(2));
-            Edges.refused(() -> Edges.after(Edges.busy(), Edges.ticks(24)), NONE, y -> y.cancels(2));
-            Edges.refused(DueWheels::new, NONE, y -> y.cancels(0));
+            refused(() -> after(busy(), y -> y.cancels(2)), NONE, y -> y.cancels(2));
+            refused(() -> after(busy(), ticks(24)), NONE, y -> y.cancels(2));
+            refused(DueWheels::new, NONE, y -> y.cancels(0));
         });
         e.edge(8, "All TIMERS of a GROUP go: how many.", () -> {
-            DueWheels x = Edges.sixteen();
+            DueWheels x = sixteen();
             x.pauses(0);
             is("GROUP 0, one PAUSED", x.cancelsAll(0), 2);
             is("GROUP 7", x.cancelsAll(7), 2);
@@ -148,7 +125,7 @@ final class TimersEdges {
 
     private static void tellSteady(Edges e) {
         e.edge(9, "A TIMER is STEADY (is true), or not: 1 if it was, else 0.", () -> {
-            DueWheels x = Edges.sixteen();
+            DueWheels x = sixteen();
             is("it was not", x.steady(15, true), 0);
             is("it is", x.timer(15, 9), 1);
             is("another is not", x.timer(14, 9), 0);
@@ -158,49 +135,49 @@ final class TimersEdges {
             is("a PAUSED one", x.steady(0, true), 0);
             is("it is", x.timer(0, 9), 1);
         });
-        e.edge(9, "-2: it is so", () -> Edges.refused(Edges::busy, -2, y -> y.steady(4, true),
+        e.edge(9, "-2: it is so", () -> refused(EdgeKit::busy, -2, y -> y.steady(4, true),
             y -> y.steady(0, false), y -> y.steady(5, false)));
         e.edge(9, "NONE: none such.", () -> {
             noneEach(NO_TIMERS, v -> y -> y.steady(v, true));
             noneEach(NO_TIMERS, v -> y -> y.steady(v, false));
-            Edges.refused(() -> Edges.after(Edges.busy(), y -> y.cancels(4)), NONE, y -> y.steady(4, true),
+            refused(() -> after(busy(), y -> y.cancels(4)), NONE, y -> y.steady(4, true),
                 y -> y.steady(4, false));
         });
     }
 
     private static void tellPauses(Edges e) {
         e.edge(10, "A TIMER is PAUSED: its REST.", () -> {
-            DueWheels x = Edges.some(4, 1000000);
+            DueWheels x = some(4, 1000000);
             x.ticks(3);
             is("the least", x.pauses(0), 1);
             is("a far one", x.pauses(1), 999997);
             is("PAUSED ones", x.count(4), 2);
-            DueWheels y = Edges.after(Edges.some(4, 9), z -> z.steady(1, true), z -> z.leaps(3), z -> z.leaps(-2));
+            DueWheels y = after(some(4, 9), z -> z.steady(1, true), z -> z.leaps(3), z -> z.leaps(-2));
             is("after a LEAP back, DUE as it was", y.pauses(0), 3);
             is("of a STEADY one D as it was", y.pauses(1), 9);
         });
         e.edge(10, "NONE: none such.", () -> {
             noneEach(NO_TIMERS, v -> y -> y.pauses(v));
-            Edges.refused(() -> Edges.after(Edges.busy(), Edges.ticks(24)), NONE, y -> y.pauses(2));
+            refused(() -> after(busy(), ticks(24)), NONE, y -> y.pauses(2));
         });
         e.edge(10, "-2: it is", () -> {
-            Edges.refused(Edges::busy, -2, y -> y.pauses(5));
-            Edges.refused(() -> Edges.after(Edges.busy(), y -> y.holds(2)), -2, y -> y.pauses(1), y -> y.pauses(2));
-            Edges.refused(() -> Edges.after(Edges.busy(), Edges.ticks(50)), -2, y -> y.pauses(5));
+            refused(EdgeKit::busy, -2, y -> y.pauses(5));
+            refused(() -> after(busy(), y -> y.holds(2)), -2, y -> y.pauses(1), y -> y.pauses(2));
+            refused(() -> after(busy(), ticks(50)), -2, y -> y.pauses(5));
         });
         e.edge(11, "A TIMER is PAUSED no more: DUE is CLOCK and its REST, it is LAID: DUE.", () -> {
-            DueWheels x = Edges.some(4, 70, 4);
+            DueWheels x = some(4, 70, 4);
             x.ticks(3);
             x.pauses(0);
             x.pauses(1);
             is("at once", x.resumes(0), 4);
-            Edges.lies("it is LAID", x, 0, 0, 0);
+            lies("it is LAID", x, 0, 0, 0);
             x.pauses(0);
             x.ticks(60);
             is("CLOCK 63, REST 1", x.resumes(0), 64);
-            Edges.lies("it is LAID", x, 0, 0, 0);
+            lies("it is LAID", x, 0, 0, 0);
             is("CLOCK 63, REST 67", x.resumes(1), 130);
-            Edges.lies("it is FAR", x, 1, NONE, NONE);
+            lies("it is FAR", x, 1, NONE, NONE);
             is("no PAUSED ones", x.count(4), 0);
             is("no REST", x.timer(0, 10), NONE);
             is("RINGS at the next TICK", x.ticks(1), 1);
@@ -210,18 +187,18 @@ final class TimersEdges {
             is("CLOCK 0, REST 66", x.resumes(1), 66);
         });
         e.edge(11, "-2: it is not PAUSED", () -> {
-            Edges.refused(Edges::busy, -2, y -> y.resumes(0), y -> y.resumes(3), y -> y.resumes(4));
-            Edges.refused(() -> Edges.after(Edges.busy(), y -> y.resumes(5)), -2, y -> y.resumes(5));
+            refused(EdgeKit::busy, -2, y -> y.resumes(0), y -> y.resumes(3), y -> y.resumes(4));
+            refused(() -> after(busy(), y -> y.resumes(5)), -2, y -> y.resumes(5));
         });
         e.edge(11, "NONE: none such.", () -> {
             noneEach(NO_TIMERS, v -> y -> y.resumes(v));
-            Edges.refused(() -> Edges.after(Edges.busy(), y -> y.cancels(5)), NONE, y -> y.resumes(5));
+            refused(() -> after(busy(), y -> y.cancels(5)), NONE, y -> y.resumes(5));
         });
     }
 
     private static void tellGroups(Edges e) {
         e.edge(12, "All of a GROUP that are not PAUSED are PAUSED: how many.", () -> {
-            DueWheels x = Edges.sixteen();
+            DueWheels x = sixteen();
             is("GROUP 0", x.holds(0), 2);
             is("GROUP 7", x.holds(7), 2);
             is("they are so", x.holds(7), 0);
@@ -236,7 +213,7 @@ final class TimersEdges {
         });
         e.edge(12, "NONE: no such GROUP.", () -> noneEach(NO_GROUPS, v -> y -> y.holds(v)));
         e.edge(13, "All of a GROUP that are PAUSED are so no more, as resumes(): how many.", () -> {
-            DueWheels x = Edges.sixteen();
+            DueWheels x = sixteen();
             x.holds(0);
             x.holds(7);
             x.pauses(1);
@@ -245,7 +222,7 @@ final class TimersEdges {
             is("they are so", x.goesOn(7), 0);
             is("DUE", x.timer(7, 0), 118);
             is("DUE", x.timer(15, 0), 126);
-            Edges.lies("LAID", x, 7, NONE, NONE);
+            lies("LAID", x, 7, NONE, NONE);
             is("the one alone", x.goesOn(1), 1);
             is("DUE of the other as it was", x.timer(9, 0), 110);
             is("GROUP 0", x.goesOn(0), 2);
@@ -259,7 +236,7 @@ final class TimersEdges {
     private static void tellSpreads(Edges e) {
         e.edge(14, "in the order of their DUES (of one DUE in ORDER), the first stays, each other one has DUE gap "
             + "(0 .. 1000) behind the one ahead of it", () -> {
-                DueWheels x = Edges.some(40, 30, 40, 30);
+                DueWheels x = some(40, 30, 40, 30);
                 is("gap 1000", x.spreads(0, 1000), 3);
                 for (int i = 0; i < 4; i++) {
                     is("DUE of " + i, x.timer(i, 0), new int[] {2030, 30, 3030, 1030}[i]);
@@ -268,7 +245,7 @@ final class TimersEdges {
                 is("gap 0", x.spreads(0, 0), 3);
                 row("all at once", x, 30);
                 is("at once", x.ticks(30), 4);
-                DueWheels y = Edges.some(40, 30, 40, 30);
+                DueWheels y = some(40, 30, 40, 30);
                 y.order(2);
                 is("gap 1, by RULE 2", y.spreads(0, 1), 3);
                 for (int i = 0; i < 4; i++) {
@@ -276,19 +253,19 @@ final class TimersEdges {
                 }
             });
         e.edge(14, "they are LAID anew: how many have another DUE than they had", () -> {
-            DueWheels x = Edges.some(16, 17, 70);
+            DueWheels x = some(16, 17, 70);
             x.ticks(14);
             is("the second has what it had", x.spreads(0, 1), 1);
             row("the last", x, 18);
-            Edges.lies("the first, LAID anew", x, 0, 0, 0);
-            Edges.lies("the second, LAID anew", x, 1, 0, 1);
-            Edges.lies("the third, LAID anew", x, 2, 1, 0);
+            lies("the first, LAID anew", x, 0, 0, 0);
+            lies("the second, LAID anew", x, 1, 0, 1);
+            lies("the third, LAID anew", x, 2, 1, 0);
             is("all as they were", x.spreads(0, 1), 0);
             row("the last", x, 18);
             is("not MOVED", x.told(1), 0);
         });
         e.edge(14, "TIMERS of a GROUP that are not PAUSED are put apart", () -> {
-            DueWheels x = Edges.some(10, 20, 30, 5);
+            DueWheels x = some(10, 20, 30, 5);
             x.sets(21, 1, 0, 1, 0);
             x.pauses(3);
             is("two of three", x.spreads(0, 3), 2);
@@ -297,10 +274,10 @@ final class TimersEdges {
             is("another GROUP too", x.timer(4, 0), 21);
         });
         e.edge(14, "-2: there are fewer than two", () -> {
-            Edges.refused(Edges::busy, -2, y -> y.spreads(0, 0), y -> y.spreads(1, 1000), y -> y.spreads(7, 5));
-            Edges.refused(() -> Edges.after(Edges.busy(), y -> y.pauses(4)), -2, y -> y.spreads(3, 5));
-            Edges.refused(() -> Edges.after(Edges.busy(), y -> y.holds(2)), -2, y -> y.spreads(2, 5));
-            is("two", Edges.busy().spreads(3, 5), 1);
+            refused(EdgeKit::busy, -2, y -> y.spreads(0, 0), y -> y.spreads(1, 1000), y -> y.spreads(7, 5));
+            refused(() -> after(busy(), y -> y.pauses(4)), -2, y -> y.spreads(3, 5));
+            refused(() -> after(busy(), y -> y.holds(2)), -2, y -> y.spreads(2, 5));
+            is("two", busy().spreads(3, 5), 1);
         });
         e.edge(14, "NONE: no such GROUP, gap", () -> {
             noneEach(NO_GROUPS, v -> y -> y.spreads(v, 1));
@@ -311,34 +288,34 @@ final class TimersEdges {
 
     private static void tellDelays(Edges e) {
         e.edge(15, "DUE of a TIMER becomes CLOCK and delay (1 .. 1000000), it is LAID anew", () -> {
-            DueWheels x = Edges.some(70);
+            DueWheels x = some(70);
             x.ticks(5);
             is("the least", x.delays(0, 1), 0);
             is("DUE", x.timer(0, 0), 6);
-            Edges.lies("LAID anew", x, 0, 0, 2);
+            lies("LAID anew", x, 0, 0, 2);
             is("the greatest", x.delays(0, 1000000), 0);
             is("DUE", x.timer(0, 0), 1000005);
-            Edges.lies("LAID anew", x, 0, NONE, NONE);
+            lies("LAID anew", x, 0, NONE, NONE);
             is("not MOVED", x.told(1), 0);
             is("by one", x.delays(0, 999999), 0);
             x.delays(0, 1);
             is("RINGS", x.ticks(1), 1);
         });
         e.edge(15, "(of a PAUSED one REST becomes that)", () -> {
-            DueWheels x = Edges.some(70);
+            DueWheels x = some(70);
             x.pauses(0);
             x.ticks(5);
             is("the least", x.delays(0, 1), 0);
             row("sooner", x, -69);
             is("REST", x.timer(0, 10), 1);
-            Edges.lies("PAUSED", x, 0, -2, -2);
+            lies("PAUSED", x, 0, -2, -2);
             is("the greatest", x.delays(0, 1000000), 0);
             row("later", x, 999999);
             is("REST", x.timer(0, 10), 1000000);
             is("DUE as it goes on", x.resumes(0), 1000005);
         });
         e.edge(15, "the ROW: by how much later that is (below 0: sooner)", () -> {
-            DueWheels x = Edges.some(70);
+            DueWheels x = some(70);
             x.ticks(5);
             x.delays(0, 66);
             row("by one", x, 1);
@@ -350,11 +327,11 @@ final class TimersEdges {
             row("sooner", x, -999999);
         });
         e.edge(15, "-2: it is so", () -> {
-            Edges.refused(Edges::busy, -2, y -> y.delays(2, 24), y -> y.delays(3, 84), y -> y.delays(5, 6));
-            Edges.refused(() -> Edges.after(Edges.busy(), Edges.ticks(1)), -2, y -> y.delays(2, 23),
+            refused(EdgeKit::busy, -2, y -> y.delays(2, 24), y -> y.delays(3, 84), y -> y.delays(5, 6));
+            refused(() -> after(busy(), ticks(1)), -2, y -> y.delays(2, 23),
                 y -> y.delays(5, 6));
-            DueWheels x = Edges.after(Edges.one(16), Edges.ticks(14), y -> y.delays(0, 2));
-            Edges.lies("it is not LAID anew", x, 0, 2, 1);
+            DueWheels x = after(one(16), ticks(14), y -> y.delays(0, 2));
+            lies("it is not LAID anew", x, 0, 2, 1);
         });
         e.edge(15, "NONE: none such, another delay", () -> {
             noneEach(NO_TIMERS, v -> y -> y.delays(v, 1));
@@ -385,17 +362,17 @@ final class TimersEdges {
             for (int i = 1; i <= 25; i++) {
                 is("up to 100", x.sign(0x74313B74), 4 * i);
             }
-            Edges.refused(() -> hundred(100), NONE, y -> y.sign(0), y -> y.sign(-1));
-            Edges.refused(() -> hundred(97), NONE, y -> y.sign(0));
-            Edges.refused(() -> hundred(99), NONE, y -> y.sign(0));
+            refused(() -> hundred(100), NONE, y -> y.sign(0), y -> y.sign(-1));
+            refused(() -> hundred(97), NONE, y -> y.sign(0));
+            refused(() -> hundred(99), NONE, y -> y.sign(0));
             is("96 and four", hundred(96).sign(0), 100);
-            is("a run() makes room", Edges.after(hundred(100), y -> y.run()).sign(0), 4);
+            is("a run() makes room", after(hundred(100), y -> y.run()).sign(0), 4);
         });
     }
 
     /** A text that is cut to so many of a hundred signs. */
     private static DueWheels hundred(int n) {
-        DueWheels x = Edges.one(3);
+        DueWheels x = one(3);
         x.group(0);
         for (int i = 0; i < 25; i++) {
             x.sign('t' << 24 | '1' << 16 | ';' << 8 | 't');
@@ -427,11 +404,11 @@ final class TimersEdges {
             Check.is("a hundred", hundred(100).end(100), true);
         });
         e.edge(18, "false if it has not so many, or n is below 0", () -> {
-            Edges.Call[] calls = {y -> y.end(6) ? 1 : 0, y -> y.end(101) ? 1 : 0,
+            Call[] calls = {y -> y.end(6) ? 1 : 0, y -> y.end(101) ? 1 : 0,
                 y -> y.end(Integer.MAX_VALUE) ? 1 : 0, y -> y.end(-1) ? 1 : 0, y -> y.end(Integer.MIN_VALUE) ? 1 : 0};
-            Edges.refused(Edges::busy, 0, calls);
-            Edges.refused(DueWheels::new, 0, y -> y.end(1) ? 1 : 0, y -> y.end(-1) ? 1 : 0);
-            Edges.refused(() -> hundred(100), 0, y -> y.end(101) ? 1 : 0);
+            refused(EdgeKit::busy, 0, calls);
+            refused(DueWheels::new, 0, y -> y.end(1) ? 1 : 0, y -> y.end(-1) ? 1 : 0);
+            refused(() -> hundred(100), 0, y -> y.end(101) ? 1 : 0);
             DueWheels x = hundred(100);
             x.end(2);
             Check.is("what was cut off is not had back", x.end(3), false);
