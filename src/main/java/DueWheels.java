@@ -653,7 +653,7 @@ public final class DueWheels {
 
     public int rung(int i) {
         int at = log.placeOf(i);
-        if (at < 0) {
+        if (!isWithin(at, 0, MOST_KEPT - 1)) {
             return NONE;
         }
         row.empty();
@@ -769,7 +769,7 @@ public final class DueWheels {
         int told = Math.min(rang, MOST_TOLD);
         for (int i = log.kept - told; i < log.kept; i++) {
             int at = log.placeOf(i);
-            if (at >= 0) {
+            if (isWithin(at, 0, MOST_KEPT - 1)) {
                 row.put(log.timers[at]);
                 row.put(byDue ? log.dues[at] : log.clocks[at]);
             }

@@ -5,9 +5,29 @@ import java.util.NoSuchElementException;
 final class Check {
     private static int wrong;
     private static int looked;
-    private static String heading = "";
+    private static volatile String heading = "";
+
+    /** A call that does not end is wrong too: it must not hold up the tests for ever. */
+    private static final int MOST_SECONDS = 600;
+
+    static {
+        Thread watch = new Thread(Check::watch);
+        watch.setDaemon(true);
+        watch.start();
+    }
 
     private Check() {
+    }
+
+    private static void watch() {
+        try {
+            Thread.sleep(1000L * MOST_SECONDS);
+        } catch (InterruptedException e) {
+            return;
+        }
+        System.out.println(heading + "did not end in " + MOST_SECONDS + " seconds");
+        System.out.flush();
+        Runtime.getRuntime().halt(1);
     }
 
     /** What is printed ahead of each wrong answer from now on. */

@@ -9,7 +9,7 @@ import java.util.regex.Pattern;
 /**
  * Each sentence of the document that names a boundary case (too small, too large, empty, full, a wrap-around, a
  * refused call) has a test of its own. Here they are run; and it is looked whether each is the document's sentence,
- * and whether each refusal and each range that a promise tells has one.
+ * and whether each refusal, each range and each number that the document tells has one.
  */
 public final class EdgesTest {
     private static final int PROMISES = 40;
@@ -17,6 +17,9 @@ public final class EdgesTest {
     private static final Pattern REFUSALS =
         Pattern.compile("(?:-\\d, )?(?:-\\d|NONE|Refused|NoSuchElementException)(?:: | for )[^;.:]*(?:\\.\\. ?[^;.:]*)*");
     private static final Pattern RANGES = Pattern.compile("-?\\d+ \\.\\. \\d+");
+    private static final Pattern BOUNDS = Pattern.compile("\\d|NONE|Refused|NoSuchElementException: ");
+    /** The numbers of the terms themselves. */
+    private static final Pattern LABELS = Pattern.compile("(?:## Terms|```) [12]\\. ");
 
     public static void main(String[] args) throws IOException {
         Edges edges = new Edges();
@@ -59,6 +62,26 @@ public final class EdgesTest {
             looksFor(edges, promise, REFUSALS.matcher(parts.get(promise)));
             looksFor(edges, promise, RANGES.matcher(parts.get(promise)));
         }
+        for (int promise = 0; promise < parts.size(); promise++) {
+            String rest = notQuoted(edges, promise, parts.get(promise));
+            Check.is("promise " + promise + ", no number and no refusal outside its edges: '" + rest + "'",
+                BOUNDS.matcher(LABELS.matcher(rest).replaceAll("")).find(), false);
+        }
+    }
+
+    /** What stands in no edge of a promise. */
+    private static String notQuoted(Edges edges, int promise, String told) {
+        StringBuilder rest = new StringBuilder(told);
+        for (Edges.Edge edge : edges.all()) {
+            int at = edge.promise() == promise ? told.indexOf(edge.sentence()) : -1;
+            while (at >= 0) {
+                for (int i = at; i < at + edge.sentence().length(); i++) {
+                    rest.setCharAt(i, '|');
+                }
+                at = told.indexOf(edge.sentence(), at + 1);
+            }
+        }
+        return rest.toString().replaceAll("\\|+", "|");
     }
 
     /** The terms, then each promise, each told in one line. */

@@ -125,6 +125,17 @@ final class PastEdges extends EdgeKit {
             }
             is("none", x.count(3) + x.count(4) + x.count(5), 0);
         });
+        e.edge(39, "6: RULE", () -> {
+            DueWheels x = new DueWheels();
+            is("at first", x.count(6), 0);
+            for (int rule : new int[] {2, 1, 0}) {
+                x.order(rule);
+                is("RULE", x.count(6), rule);
+                x.order(3);
+                x.order(-1);
+                is("a refused one is none", x.count(6), rule);
+            }
+        });
         e.edge(39, "7: numbers of what RANG that are kept", () -> {
             DueWheels x = ticking();
             is("none", x.count(7), 0);

@@ -100,6 +100,21 @@ final class TermsEdges extends EdgeKit {
             x.sets(8, 0, 0, 1, 0);
             is("those that rang count", x.timer(1, 3), 4);
         });
+        e.edge(TERMS, "GROUP 0 .. 7, SORT 0 .. 3, PERIOD 1 .. 1000", () -> {
+            DueWheels x = new DueWheels();
+            is("the least of each", x.sets(5, 0, 0, 1, 0), 0);
+            is("the greatest of each", x.sets(5, 7, 3, 1000, 0), 1);
+            int[][] told = {{4, 0, 7}, {5, 0, 3}, {6, 1, 1000}};
+            for (int[] what : told) {
+                is("least, what " + what[0], x.timer(0, what[0]), what[1]);
+                is("greatest, what " + what[0], x.timer(1, what[0]), what[2]);
+            }
+            refused(EdgeKit::busy, NONE, y -> y.sets(5, -1, 0, 1, 0), y -> y.sets(5, 8, 0, 1, 0),
+                y -> y.sets(5, 0, -1, 1, 0), y -> y.sets(5, 0, 4, 1, 0), y -> y.sets(5, 0, 3, 0, 0),
+                y -> y.sets(5, 0, 3, 1001, 0));
+            x.ticks(5);
+            is("PERIOD stays 1000 as it is doubled", x.timer(1, 6), 1000);
+        });
         e.edge(TERMS, "TIMES (how often it rings yet; 0: without end)", () -> {
             DueWheels x = new DueWheels();
             x.sets(1, 0, 1, 1, 0);
@@ -128,6 +143,17 @@ final class TermsEdges extends EdgeKit {
     }
 
     private static void tellLaying(Edges e) {
+        e.edge(TERMS, "TO LAY a TIMER: D is DUE less CLOCK.", () -> {
+            DueWheels x = after(new DueWheels(), y -> y.leaps(61));
+            x.sets(3, 0, 0, 1, 0);
+            x.sets(4, 0, 0, 1, 0);
+            x.sets(63, 0, 0, 1, 0);
+            x.sets(64, 0, 0, 1, 0);
+            lies("DUE 64, D 3", x, 0, 0, 0);
+            lies("DUE 65, D 4", x, 1, 1, 0);
+            lies("DUE 124, D 63", x, 2, 2, 3);
+            lies("DUE 125, D 64", x, 3, NONE, NONE);
+        });
         e.edge(TERMS, "The lowest LEVEL k of which SIZE times SPAN is more than D", () -> {
             DueWheels x = some(1, 3, 4, 15, 16, 63);
             lies("D 1", x, 0, 0, 1);
@@ -399,6 +425,19 @@ final class TermsEdges extends EdgeKit {
                 is("DUE of " + periods[i], x.timer(0, 0), 8 + doubled[i]);
                 is("nothing MISSED", x.told(2), 0);
             }
+        });
+        e.edge(TERMS, "then it is LAID.", () -> {
+            DueWheels x = new DueWheels();
+            x.wheels(4, 4, 0, 0);
+            for (int period : new int[] {3, 4, 15, 16}) {
+                x.sets(5, 0, 1, period, 0);
+            }
+            x.ticks(5);
+            lies("D 3, DUE 8", x, 0, 0, 0);
+            lies("D 4, DUE 9", x, 1, 1, 2);
+            lies("D 15, DUE 20, the SLOT where CLOCK is", x, 2, 1, 1);
+            lies("D 16", x, 3, NONE, NONE);
+            is("each RINGS at its own time", x.rings(16), 5 + 4 + 1 + 1);
         });
         e.edge(TERMS, "(All that RING at once are told first, then go, or are LAID, in that order.)", () -> {
             DueWheels x = new DueWheels();

@@ -44,6 +44,24 @@ final class ThereEdges extends EdgeKit {
                 is("SLOT of " + i, x.timer(i, 2), slots[i]);
             }
         });
+        e.edge(19, "3: ARRIVAL, 4: GROUP, 5: SORT, 6: PERIOD, 7: TIMES, 8: RANG", () -> {
+            DueWheels x = some(1, 9);
+            x.ticks(1);
+            is("the number that is free", x.sets(2, 7, 3, 600, 99), 0);
+            long[] before = {2, 7, 3, 600, 99, 0};
+            long[] after = {2, 7, 3, 1000, 98, 1};
+            for (int what = 3; what <= 8; what++) {
+                is("what " + what, x.timer(0, what), before[what - 3]);
+            }
+            x.ticks(2);
+            for (int what = 3; what <= 8; what++) {
+                is("as it rang, what " + what, x.timer(0, what), after[what - 3]);
+            }
+            x.pauses(0);
+            for (int what = 3; what <= 8; what++) {
+                is("PAUSED, what " + what, x.timer(0, what), after[what - 3]);
+            }
+        });
         e.edge(19, "9: 1 if it is STEADY, else 0", () -> {
             DueWheels x = some(3, 3);
             x.steady(1, true);

@@ -233,6 +233,14 @@ final class TimersEdges extends EdgeKit {
         e.edge(13, "NONE: no such GROUP.", () -> noneEach(NO_GROUPS, v -> y -> y.goesOn(v)));
     }
 
+    private static DueWheels sixteenOfOneGroup() {
+        DueWheels x = new DueWheels();
+        for (int i = 0; i < 16; i++) {
+            x.sets(7, 5, 0, 1, 0);
+        }
+        return x;
+    }
+
     private static void tellSpreads(Edges e) {
         e.edge(14, "in the order of their DUES (of one DUE in ORDER), the first stays, each other one has DUE gap "
             + "(0 .. 1000) behind the one ahead of it", () -> {
@@ -273,6 +281,20 @@ final class TimersEdges extends EdgeKit {
             is("the PAUSED one is as it was", x.timer(3, 10), 5);
             is("another GROUP too", x.timer(4, 0), 21);
         });
+        e.edge(14, "the ROW: DUE of the last one.", () -> {
+            DueWheels x = some(9, 4);
+            x.spreads(0, 0);
+            row("gap 0", x, 4);
+            DueWheels y = sixteenOfOneGroup();
+            is("all but the first", y.spreads(5, 1000), 15);
+            row("the greatest gap, sixteen", y, 7 + 15 * 1000);
+            is("it is the last one's", y.timer(15, 0), 15007);
+            y.order(2);
+            y.spreads(5, 0);
+            is("by RULE 2, of one DUE", y.spreads(5, 1), 15);
+            row("the one set first is the last", y, 22);
+            is("it is the last one's", y.timer(0, 0), 22);
+        });
         e.edge(14, "-2: there are fewer than two", () -> {
             refused(EdgeKit::busy, -2, y -> y.spreads(0, 0), y -> y.spreads(1, 1000), y -> y.spreads(7, 5));
             refused(() -> after(busy(), y -> y.pauses(4)), -2, y -> y.spreads(3, 5));
@@ -301,7 +323,7 @@ final class TimersEdges extends EdgeKit {
             x.delays(0, 1);
             is("RINGS", x.ticks(1), 1);
         });
-        e.edge(15, "(of a PAUSED one REST becomes that)", () -> {
+        e.edge(15, "(of a PAUSED one REST becomes that): 0", () -> {
             DueWheels x = some(70);
             x.pauses(0);
             x.ticks(5);
